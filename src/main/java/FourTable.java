@@ -396,8 +396,8 @@ public final class FourTable {
     }
 
     /**
-     * The least number of products that cover what is open, the taken ones counted, or best if that is no more.
-     * It goes no deeper than best, as each level takes one product.
+     * The least number of products that cover what is open, with those already taken, where that is less than best;
+     * else best. It goes no deeper than best, as each level takes one product.
      */
     private static int fewest(int[] products, int count, int open, int taken, int best) {
         if (open == 0) {
