@@ -20,7 +20,9 @@ public final class ProductsTest {
     /** One object again and again, so that nothing of an earlier call shows in a later one. */
     private static void writtenOnes(Checks c) {
         FourTable x = new FourTable();
-        int[][] rows = {{0, 0, 0}, {65535, 1, 1}, {27030, 8, 8}, {38505, 8, 8}, {32768, 1, 1}, {43690, 1, 1}, {0, 0, 0}};
+        int[][] rows = {
+            {0, 0, 0}, {65535, 1, 1}, {27030, 8, 8}, {38505, 8, 8}, {32768, 1, 1}, {43690, 1, 1}, {0, 0, 0}
+        };
         for (int[] row : rows) {
             x.set(0, row[0]);
             c.due("promise 18: primes of " + row[0], x.primes(0), row[1]);
