@@ -26,6 +26,10 @@ public final class Promise03GetTest {
         Held.allLeft(c, "get", x);
     }
 
+    static void theAnswerFollowsEveryChangeOfTheRegister(Checks c) {
+        Follows.everyChangeOfRegister7(c, x -> x.get(7));
+    }
+
     static void noSuchRegister(Checks c) {
         Refused.noRegister(c, (x, n) -> x.get(n));
     }

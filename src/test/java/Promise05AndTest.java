@@ -90,6 +90,17 @@ public final class Promise05AndTest {
         }
     }
 
+    static void theResultFollowsEveryChangeOfARegisterThatIsRead(Checks c) {
+        Follows.everyChangeOfRegister7(c, x -> {
+            x.and(0, 7, 15, 0);
+            return x.get(0);
+        });
+        Follows.everyChangeOfRegister7(c, x -> {
+            x.and(0, 15, 7, 7);
+            return x.get(0);
+        });
+    }
+
     static void noSuchRegisterR(Checks c) {
         Refused.noRegister(c, (x, n) -> x.and(n, 1, 2, 0));
     }

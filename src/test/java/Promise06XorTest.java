@@ -57,6 +57,17 @@ public final class Promise06XorTest {
         Held.onlyChanged(c, "xor(3, 3, 3)", x, 3, 0);
     }
 
+    static void theResultFollowsEveryChangeOfARegisterThatIsRead(Checks c) {
+        Follows.everyChangeOfRegister7(c, x -> {
+            x.xor(0, 7, 15);
+            return x.get(0);
+        });
+        Follows.everyChangeOfRegister7(c, x -> {
+            x.xor(0, 15, 7);
+            return x.get(0);
+        });
+    }
+
     static void noSuchRegisterR(Checks c) {
         Refused.noRegister(c, (x, n) -> x.xor(n, 1, 2));
     }

@@ -79,6 +79,17 @@ public final class Promise07PartTest {
         Held.onlyChanged(c, "part(3, 3, 3, false)", x, 3, 0xD7D7);
     }
 
+    static void theResultFollowsEveryChangeOfARegisterThatIsRead(Checks c) {
+        Follows.everyChangeOfRegister7(c, x -> {
+            x.part(0, 7, 0, false);
+            return x.get(0);
+        });
+        Follows.everyChangeOfRegister7(c, x -> {
+            x.part(0, 7, 3, true);
+            return x.get(0);
+        });
+    }
+
     static void noSuchRegisterR(Checks c) {
         Refused.noRegister(c, (x, n) -> x.part(n, 1, 0, true));
         Refused.noRegister(c, (x, n) -> x.part(n, 1, 0, false));

@@ -83,6 +83,13 @@ public final class Promise08ExchangeTest {
         Held.onlyChanged(c, "exchange(3, 3, 2, 3)", x, 3, 0x0F02);
     }
 
+    static void theResultFollowsEveryChangeOfARegisterThatIsRead(Checks c) {
+        Follows.everyChangeOfRegister7(c, x -> {
+            x.exchange(0, 7, 1, 2);
+            return x.get(0);
+        });
+    }
+
     static void noSuchRegisterR(Checks c) {
         Refused.noRegister(c, (x, n) -> x.exchange(n, 1, 0, 3));
     }

@@ -96,6 +96,29 @@ public final class Promise09ComposeTest {
         Held.onlyChanged(c, "compose(3, 3, 3, 3, 3, 3) of 0xB7D6", x, 3, 0xB7D6);
     }
 
+    static void theResultFollowsEveryChangeOfARegisterThatIsRead(Checks c) {
+        Follows.everyChangeOfRegister7(c, x -> {
+            x.compose(0, 7, 1, 2, 3, 4);
+            return x.get(0);
+        });
+        Follows.everyChangeOfRegister7(c, x -> {
+            x.compose(0, 15, 7, 2, 3, 4);
+            return x.get(0);
+        });
+        Follows.everyChangeOfRegister7(c, x -> {
+            x.compose(0, 15, 1, 7, 3, 4);
+            return x.get(0);
+        });
+        Follows.everyChangeOfRegister7(c, x -> {
+            x.compose(0, 15, 1, 2, 7, 4);
+            return x.get(0);
+        });
+        Follows.everyChangeOfRegister7(c, x -> {
+            x.compose(0, 15, 1, 2, 3, 7);
+            return x.get(0);
+        });
+    }
+
     static void noSuchRegisterR(Checks c) {
         Refused.noRegister(c, (x, n) -> x.compose(n, 1, 2, 3, 4, 5));
     }

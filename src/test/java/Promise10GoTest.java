@@ -128,6 +128,13 @@ public final class Promise10GoTest {
         Held.onlyChanged(c, "go(3, 3, 767)", x, 3, 301);
     }
 
+    static void theResultFollowsEveryChangeOfARegisterThatIsRead(Checks c) {
+        Follows.everyChangeOfRegister7(c, x -> {
+            x.go(0, 7, 700);
+            return x.get(0);
+        });
+    }
+
     static void noSuchRegisterR(Checks c) {
         Refused.noRegister(c, (x, n) -> x.go(n, 1, 0));
         Refused.noRegister(c, (x, n) -> x.go(n, 1, 767));

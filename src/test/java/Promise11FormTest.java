@@ -80,6 +80,14 @@ public final class Promise11FormTest {
         Held.onlyChanged(c, "form(3, 3) again", x, 3, 301);
     }
 
+    static void theAnswerFollowsEveryChangeOfTheRegister(Checks c) {
+        Follows.everyChangeOfRegister7(c, x -> x.form(0, 7));
+        Follows.everyChangeOfRegister7(c, x -> {
+            x.form(0, 7);
+            return x.get(0);
+        });
+    }
+
     static void noSuchRegisterR(Checks c) {
         Refused.noRegister(c, (x, n) -> x.form(n, 1));
     }

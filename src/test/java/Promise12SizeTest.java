@@ -53,6 +53,10 @@ public final class Promise12SizeTest {
         c.due("size(15)", Held.object(15, 4080).size(15), 12);
     }
 
+    static void theAnswerFollowsEveryChangeOfTheRegister(Checks c) {
+        Follows.everyChangeOfRegister7(c, x -> x.size(7));
+    }
+
     static void noSuchRegister(Checks c) {
         Refused.noRegister(c, (x, n) -> x.size(n));
     }

@@ -75,6 +75,17 @@ public final class Promise13WayTest {
         Held.allLeft(c, "way", x);
     }
 
+    static void theAnswerFollowsEveryChangeOfTheRegister(Checks c) {
+        Follows.everyChangeOfRegister7(c, x -> {
+            x.set(3, 43690);
+            return x.way(7, 3);
+        });
+        Follows.everyChangeOfRegister7(c, x -> {
+            x.set(3, 43690);
+            return x.way(3, 7);
+        });
+    }
+
     static void noSuchRegisterA(Checks c) {
         Refused.noRegister(c, (x, n) -> x.way(n, 1));
     }

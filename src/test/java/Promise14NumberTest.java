@@ -52,6 +52,10 @@ public final class Promise14NumberTest {
         c.due("number(15)", Held.object(15, 27030).number(15), 221);
     }
 
+    static void theAnswerFollowsEveryChangeOfTheRegister(Checks c) {
+        Follows.everyChangeOfRegister7(c, x -> x.number(7));
+    }
+
     static void noSuchRegister(Checks c) {
         Refused.noRegister(c, (x, n) -> x.number(n));
     }

@@ -53,6 +53,13 @@ public final class Promise16DependsTest {
         c.due("depends(15, 0)", Held.object(15, 65280).depends(15, 0), false);
     }
 
+    static void theAnswerFollowsEveryChangeOfTheRegister(Checks c) {
+        Follows.everyChangeOfRegister7(c, x -> x.depends(7, 0) ? 1 : 0);
+        Follows.everyChangeOfRegister7(c, x -> x.depends(7, 1) ? 1 : 0);
+        Follows.everyChangeOfRegister7(c, x -> x.depends(7, 2) ? 1 : 0);
+        Follows.everyChangeOfRegister7(c, x -> x.depends(7, 3) ? 1 : 0);
+    }
+
     static void noSuchRegister(Checks c) {
         Refused.noRegister(c, (x, n) -> x.depends(n, 0));
         Refused.noRegister(c, (x, n) -> x.depends(n, 3));

@@ -67,6 +67,13 @@ public final class Promise17RisesTest {
         c.due("rises(15, 3)", Held.object(15, 255).rises(15, 3), -1);
     }
 
+    static void theAnswerFollowsEveryChangeOfTheRegister(Checks c) {
+        Follows.everyChangeOfRegister7(c, x -> x.rises(7, 0));
+        Follows.everyChangeOfRegister7(c, x -> x.rises(7, 1));
+        Follows.everyChangeOfRegister7(c, x -> x.rises(7, 2));
+        Follows.everyChangeOfRegister7(c, x -> x.rises(7, 3));
+    }
+
     static void noSuchRegister(Checks c) {
         Refused.noRegister(c, (x, n) -> x.rises(n, 0));
         Refused.noRegister(c, (x, n) -> x.rises(n, 3));

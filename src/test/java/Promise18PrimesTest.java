@@ -63,6 +63,10 @@ public final class Promise18PrimesTest {
         c.due("primes(7) again", x.primes(7), 13);
     }
 
+    static void theAnswerFollowsEveryChangeOfTheRegister(Checks c) {
+        Follows.everyChangeOfRegister7(c, x -> x.primes(7));
+    }
+
     static void noSuchRegister(Checks c) {
         Refused.noRegister(c, (x, n) -> x.primes(n));
     }

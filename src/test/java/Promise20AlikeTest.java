@@ -73,6 +73,39 @@ public final class Promise20AlikeTest {
         Held.allLeft(c, "alike", x);
     }
 
+    static void theAnswerFollowsEveryChangeOfTheRegister(Checks c) {
+        Follows.everyChangeOfRegister7(c, x -> {
+            x.set(3, 43690);
+            x.set(4, 43690);
+            return x.alike(7);
+        });
+    }
+
+    static void theAnswerFollowsEveryChangeOfAnotherRegister(Checks c) {
+        FourTable x = new FourTable();
+        c.due("alike(0)", x.alike(0), 16);
+        x.set(1, 1);
+        c.due("alike(0) after set", x.alike(0), 15);
+        x.variable(2, 3);
+        c.due("alike(0) after variable", x.alike(0), 14);
+        x.and(3, 1, 2, 2);
+        c.due("alike(0) after and", x.alike(0), 13);
+        x.xor(4, 1, 2);
+        c.due("alike(0) after xor", x.alike(0), 12);
+        x.part(5, 1, 0, false);
+        c.due("alike(0) after part", x.alike(0), 11);
+        x.exchange(6, 2, 0, 3);
+        c.due("alike(0) after exchange", x.alike(0), 10);
+        x.compose(7, 2, 0, 0, 0, 1);
+        c.due("alike(0) after compose", x.alike(0), 9);
+        x.go(8, 1, 30);
+        c.due("alike(0) after go", x.alike(0), 8);
+        x.form(9, 2);
+        c.due("alike(0) after form", x.alike(0), 7);
+        x.form(1, 0);
+        c.due("alike(0) after form to its own class", x.alike(0), 8);
+    }
+
     static void noSuchRegister(Checks c) {
         Refused.noRegister(c, (x, n) -> x.alike(n));
     }

@@ -10,7 +10,7 @@ import java.util.Map;
 import java.util.NoSuchElementException;
 import java.util.function.Consumer;
 
-/** The sentences of "What it is" and "Terms" that no promise says again. */
+/** The sentences of "Terms" that no promise says again. */
 public final class TermsTest {
     public static void main(String[] args) throws ReflectiveOperationException {
         Sentences.run(TermsTest.class);
@@ -67,16 +67,6 @@ public final class TermsTest {
             refuse(c, call, x);
             c.due("the answers after " + call.getKey() + " are those before", answers(x).equals(before), true);
         }
-    }
-
-    /** "An object is used for at most 512 calls": the 512th still answers. */
-    static void theLastOfAllCallsAnswersAsDue(Checks c) {
-        FourTable x = new FourTable();
-        x.set(15, 14295);
-        for (int k = 2; k < 512; k++) {
-            x.form(k % 15, 15);
-        }
-        c.due("form(0, 15) as call 512", x.form(0, 15), 767);
     }
 
     /** "All memory is the class's own, made once": an object's rows stay those that it was made with. */
